@@ -507,7 +507,7 @@ public final class NineteenSecondsLeft {
     }
 
     /**
-     * He shoots two free ones by his odds in the seconds as they are, then the ball is a side's with
+     * He shoots two free ones by his odds in the seconds as they are, then a side has the ball with
      * so many seconds. The lamp is asked behind both alone: between them nothing ends.
      */
     private int valueOfTwoFree(int player, int secondsThen, int ballThen) {
