@@ -523,6 +523,7 @@ public final class NineteenSecondsLeft {
         return mix(t, mix(t, both, one), mix(t, one, none));
     }
 
+    /** A place is a number's: the choice's where it alone can not be, else its player's. */
     private int placeThatCanNotBe() {
         int seconds = now.told(SECONDS);
         int ball = now.told(BALL);
@@ -531,8 +532,12 @@ public final class NineteenSecondsLeft {
                 return i;
             }
             int choice = numbers[i + 1];
-            if (!canBe(numbers[i], choice, seconds, ball)) {
+            boolean mayChoose = choice == HOLD || hasBall(numbers[i], ball);
+            if (!mayChoose || lamp.isOver(seconds, now.told(LEAD))) {
                 return i;
+            }
+            if (choice > HOLD) {
+                return i + 1;
             }
             seconds = Math.max(0, seconds - takes(choice));
             ball = choice == HOLD ? ball : 1 - ball;
@@ -540,12 +545,8 @@ public final class NineteenSecondsLeft {
         return NONE;
     }
 
-    private boolean canBe(int player, int choice, int seconds, int ball) {
-        if (choice > HOLD || lamp.isOver(seconds, now.told(LEAD))) {
-            return false;
-        }
-        return choice == HOLD
-                || now.squad.has(player) && now.squad.fact(player, SIDE) == ball;
+    private boolean hasBall(int player, int ball) {
+        return now.squad.has(player) && now.squad.fact(player, SIDE) == ball;
     }
 
     /** One end from here by lot: the lead then. */

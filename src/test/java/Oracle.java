@@ -559,12 +559,15 @@ final class Oracle {
         int s = seconds;
         int b = ball;
         for (int i = 0; i < r.size(); i += 2) {
-            if (i == r.size() - 1 || game.ended(s, lead) || r.get(i + 1) > 3) {
+            if (i == r.size() - 1 || game.ended(s, lead)) {
                 return i;
             }
             int c = r.get(i + 1);
             if (c != 3 && (nobody(r.get(i)) || side(r.get(i)) != b)) {
                 return i;
+            }
+            if (c > 3) {
+                return i + 1;
             }
             s = Math.max(0, s - new int[] {4, 3, 1, 5}[c]);
             b = c == 3 ? b : 1 - b;

@@ -845,8 +845,16 @@ public final class PromisesTest {
         judged(x, "10", 0);
         judged(x, "30", 0);
         judged(x, "0131", 2);
-        judged(x, "04", 0);
-        judged(x, "00" + "19", 2);
+        // The CHOICE's own place where it alone can not be, else the PLAYER's.
+        judged(x, "04", 1);
+        judged(x, "29", 1);
+        judged(x, "00" + "19", 3);
+        judged(x, "93" + "05", 3);
+        judged(x, "14", 0);
+        judged(x, "34", 0);
+        judged(x, "94", 0);
+        judged(x, "00" + "04", 2);
+        judged(x, "021202120212021202" + "14", 19);
         judged(x, "93", -9);
         judged(x, "9303" + "20", -9);
         judged(x, "9303" + "10", 4);
@@ -856,6 +864,8 @@ public final class PromisesTest {
         judged(x, "83838320", -9);
         judged(x, "8383832083", 8);
         judged(x, "838383208", 8);
+        judged(x, "83838324", 7);
+        judged(x, "8383832014", 8);
         // 4, 3, 1, 5, 4, 2 of 4.
         judged(x, "0011" + "02" + "93" + "1000", -9);
         judged(x, "0011" + "02" + "93" + "1000" + "12", 12);
@@ -869,8 +879,11 @@ public final class PromisesTest {
         x.set(2, 1);
         judged(x, "00", 0);
         judged(x, "12", -9);
+        judged(x, "14", 1);
+        judged(x, "04", 0);
         x.set(0, 0);
         judged(x, "93", 0);
+        judged(x, "14", 0);
         x.set(0, 9);
         x.set(8, 1);
         x.set(1, 8);
