@@ -528,6 +528,17 @@ public final class PromisesTest {
         noMore(12, x, -3, 3);
         due(12, "the best is the first", game("p0s990;p0s110;c04;l-1;r0;").twoOrThree(), 0);
         due(12, "none of us", game("p1s555;").twoOrThree(), 2000000003);
+        // 1 ahead we need no 2 points but the BALL: the best for NEAR is who misses most.
+        NineteenSecondsLeft y = game("p0s990;p0s110;p1s090;c24;l+1;r9;d0;");
+        long near = mixed(1, y.of(20, 9, 1), mixed(9, y.of(20, 7, 0), y.of(20, 7, 1)));
+        long far = mixed(9, y.of(21, 10, 1), mixed(9, y.of(21, 7, 0), y.of(21, 7, 1)));
+        due(12, "a hit is worse", y.of(20, 9, 1) < y.of(20, 7, 0) ? 1 : 0, 1);
+        due(12, "the best is by VALUE", y.twoOrThree(), near - far);
+    }
+
+    /** By t tenths the first, else the second, cut. */
+    private static long mixed(int t, long hit, long miss) {
+        return (t * hit + (10 - t) * miss) / 10;
     }
 
     private void promise13() {
@@ -587,6 +598,27 @@ public final class PromisesTest {
         due(14, "a ROOKIE in 10 SECONDS", calm.foul(0), 990000000);
         calm.set(0, 9);
         due(14, "a ROOKIE in 9 SECONDS", calm.foul(0), 1000000000);
+        foulsAreCutTwice();
+    }
+
+    private void foulsAreCutTwice() {
+        // By STOPPED values have digits enough to be cut.
+        NineteenSecondsLeft x = game("p0o848;p0b758;p1k157;p1b873;p1t520;b1;w2;r5;d2;");
+        int odds = 7;
+        int otherwise = 0;
+        for (int seconds = 1; seconds <= 24; seconds++) {
+            x.set(0, seconds);
+            for (int lead = 2; lead <= 12; lead++) {
+                x.set(1, lead);
+                long none = x.of(seconds - 1, lead, 0);
+                long one = x.of(seconds - 1, lead - 1, 0);
+                long both = x.of(seconds - 1, lead - 2, 0);
+                long want = mixed(odds, mixed(odds, both, one), mixed(odds, one, none));
+                due(14, seconds + " SECONDS, LEAD and 6 " + lead, x.foul(2), want);
+                otherwise += want == (49 * both + 42 * one + 9 * none) / 100 ? 0 : 1;
+            }
+        }
+        due(14, "cut twice is other than once", otherwise > 9 ? 1 : 0, 1);
     }
 
     private void promise15() {
@@ -653,6 +685,11 @@ public final class PromisesTest {
         NineteenSecondsLeft z = game("p0s005;p1s090;c01;l+2;w1;");
         // none: QUICK by 4 tenths from 2 behind: 600000000; one or both: 1000000000.
         due(16, "TARGET behind both", z.freed(0), 900000000);
+        NineteenSecondsLeft w = game("p0s537;p1h463;c23;l-3;");
+        long none = w.of(23, 3, 1);
+        long one = w.of(23, 4, 1);
+        long both = w.of(23, 5, 1);
+        due(16, "by 7 tenths", w.freed(0), mixed(7, mixed(7, both, one), mixed(7, one, none)));
     }
 
     private void promise17() {
@@ -677,6 +714,10 @@ public final class PromisesTest {
         due(17, "COLD's FAR, half by his KIND", cold.doubled(0, 1), 200000000);
         NineteenSecondsLeft hot = game("p0s000;p0h700;c04;l+0;d0;");
         due(17, "HOT's NEAR, half by his KIND", hot.doubled(0, 1), 400000000);
+        NineteenSecondsLeft hottest = game("p0s000;p0h900;c04;l+0;d0;");
+        due(17, "half behind his KIND, not ahead", hottest.doubled(0, 1), 400000000);
+        NineteenSecondsLeft bigNear = game("p0s000;p0b400;c04;l+0;d0;");
+        due(17, "BIG's NEAR, half by his KIND", bigNear.doubled(0, 1), 300000000);
         NineteenSecondsLeft tired = game("p0t000;p0s000;c04;l+0;d0;");
         due(17, "TIRED's NEAR, 1 more by his KIND", tired.doubled(0, 1), 100000000);
         due(17, "one twice", x.doubled(0, 0), -1);
@@ -738,6 +779,8 @@ public final class PromisesTest {
         due(19, "by KIND", game("p0b000;c03;l-1;").call(), 100000000);
         due(19, "QUICK", game("p0s030;c01;l-1;").call(), 100000000);
         due(19, "nobody", new NineteenSecondsLeft().call(), 0);
+        // Theirs as they are: QUICK by 3 tenths: 9 of 10 by 700000000 less 8 of 10.
+        due(19, "ours alone", game("p0s480;p1s070;c04;l-1;d0;r0;").call(), 70000000);
     }
 
     private void promise20() {
