@@ -2,10 +2,7 @@
  * Each promise of the document by hand: ordinary calls, the edges that it names, wrong ones. The
  * numbers are worked out from the document's words; longer ones stand with their sum.
  */
-public final class PromisesTest {
-    private int passed = 0;
-    private int failed = 0;
-
+public final class PromisesTest extends Checks {
     public static void main(String[] args) {
         PromisesTest test = new PromisesTest();
         test.promise1();
@@ -40,34 +37,11 @@ public final class PromisesTest {
         test.promise26();
         test.promise27And28();
         test.promise29();
-        System.out.println(test.passed + " passed, " + test.failed + " failed");
-        if (test.failed != 0) {
-            System.exit(1);
-        }
+        test.end();
     }
 
     private void due(int promise, String what, long got, long want) {
-        if (got == want) {
-            passed++;
-        } else {
-            failed++;
-            System.out.println("promise " + promise + ", " + what + ": " + got + ", due is " + want);
-        }
-    }
-
-    private static int tell(NineteenSecondsLeft x, String text) {
-        for (int i = 0; i < text.length(); i++) {
-            x.letter(text.charAt(i));
-        }
-        return x.hall();
-    }
-
-    private static NineteenSecondsLeft game(String text) {
-        NineteenSecondsLeft x = new NineteenSecondsLeft();
-        if (tell(x, text) < 1) {
-            throw new IllegalStateException(text);
-        }
-        return x;
+        due("promise " + promise + ", " + what, got, want);
     }
 
     private void noMore(int promise, NineteenSecondsLeft x, int number, int times) {
@@ -534,11 +508,6 @@ public final class PromisesTest {
         long far = mixed(9, y.of(21, 10, 1), mixed(9, y.of(21, 7, 0), y.of(21, 7, 1)));
         due(12, "a hit is worse", y.of(20, 9, 1) < y.of(20, 7, 0) ? 1 : 0, 1);
         due(12, "the best is by VALUE", y.twoOrThree(), near - far);
-    }
-
-    /** By t tenths the first, else the second, cut. */
-    private static long mixed(int t, long hit, long miss) {
-        return (t * hit + (10 - t) * miss) / 10;
     }
 
     private void promise13() {
