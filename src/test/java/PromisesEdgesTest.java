@@ -292,6 +292,9 @@ public final class PromisesEdgesTest extends Checks {
         due("to a win at the lamp", lamp.point(), 600000000);
         lamp.set(1, 0);
         due("LEAD -6", lamp.point(), 0);
+        // Their QUICK by 4 tenths in the last SECOND: to a draw from 3 ahead, to a loss from 2.
+        due("their BALL, 4 ahead", game("p0s090;p1s090;c01;l+3;b1;").point(), 200000000);
+        due("their BALL, 3 ahead", game("p0s090;p1s090;c01;l+2;b1;").point(), 200000000);
     }
 
     private void twoOrThree() {
@@ -397,6 +400,11 @@ public final class PromisesEdgesTest extends Checks {
         due("more: 1", y.whom(1), 1);
         y.set(9, 4);
         due("less: 0", y.whom(1), 0);
+        // From 2 behind 1 SECOND is left for our QUICK; in the last SECOND none is.
+        NineteenSecondsLeft z = game("p1s000;p0s090;c02;l-2;b1;");
+        due("1 SECOND is left behind it: 1", z.whom(1), 1);
+        z.set(0, 1);
+        due("none is left behind it: 0", z.whom(1), 0);
     }
 
     private void freed() {
@@ -550,6 +558,11 @@ public final class PromisesEdgesTest extends Checks {
         sentence("FAIREST: that by which VALUE is nearest to a half, of several the least.");
         due("all alike: the least", new NineteenSecondsLeft().fairest(), 0);
         due("as near below as above: the least", game("p0s640;p1s500;c04;l+0;b1;d8;r0;").fairest(), 0);
+        // None: NEAR by 5 tenths, else a draw: 600000000; STOPPED leaves them FAR by 4: 400000000.
+        NineteenSecondsLeft tie = game("p0s500;p1s040;c04;l+0;d2;r0;");
+        due("100000000 above", tie.byLaw(0), 600000000);
+        due("100000000 below", tie.byLaw(2), 400000000);
+        due("as near above as below: the least", tie.fairest(), 0);
         due("a half itself", game("c00;l+0;").fairest(), 0);
         due("STOPPED", game("p0s900;p1s050;c04;l+0;d0;r0;").fairest(), 2);
         due("NO FAR, the greatest", game("p0s060;c03;l-2;d9;").fairest(), 3);
@@ -688,6 +701,36 @@ public final class PromisesEdgesTest extends Checks {
         return answer;
     }
 
+    /**
+     * Ends of NEAR by 9 tenths, then of the other side's QUICK by 4 in the last SECOND of 5; REBOUND
+     * 1: what a hit then is worth in the answer, and what a miss behind a hit.
+     */
+    private static int twoShotEnds(int n, int seed, int quick, int near) {
+        int z = seed;
+        int answer = 0;
+        for (int end = 0; end < n; end++) {
+            boolean hit = digit(z = next(z)) < 9;
+            if (!hit && digit(z = next(z)) < 1) {
+                // They have it again: nothing is off a hand or hits by 0 tenths: no DRAW, a draw.
+                answer += 1;
+            } else if (digit(z = next(z)) < 4) {
+                answer += quick;
+            } else {
+                z = next(z);
+                answer += hit ? near : 1;
+            }
+        }
+        return answer;
+    }
+
+    private static int next(int z) {
+        return z * 1664525 + 1013904223;
+    }
+
+    private static int digit(int z) {
+        return (z & MAX) / 256 % 10;
+    }
+
     private void lots() {
         sentence("LOTS with a seed z: n ends (1 .. 30) from here, both at their best, hits and REBOUNDS "
                 + "by DRAWS below 10");
@@ -710,8 +753,19 @@ public final class PromisesEdgesTest extends Checks {
         due("nobody: all lost", new NineteenSecondsLeft().lots(30, MAX), 0);
         NineteenSecondsLeft target = game("p0s999;w1;l+3;c24;");
         due("ended by TARGET", target.lots(30, 0), 3000);
-        // 0 tenths hit never, 9 tenths miss by a DRAW of 9 alone.
-        due("0 tenths", game("p0s010;c01;l-1;").lots(30, 7), 0);
+        due("0 tenths hit never", game("p0s010;c01;l-1;").lots(30, 7), 0);
+        NineteenSecondsLeft ours = game("p0s900;p1s090;c05;l+0;d5;r1;");
+        NineteenSecondsLeft theirs = game("p1s900;p0s090;c05;l+0;d5;r1;b1;");
+        for (int seed = -50; seed < 50; seed++) {
+            int z = seed * 43046721;
+            due("first ours, " + seed, ours.lots(30, z), twoShotEnds(30, z, 0, 100));
+            due("first theirs, " + seed, theirs.lots(30, z), twoShotEnds(30, z, 100, 0));
+        }
+        // QUICK of the last PLAYER, theirs: a hit is lost, a miss a draw.
+        NineteenSecondsLeft last = game("p0s000;p0s000;p0s000;p1s000;p1s000;p1s090;c01;l+0;b1;");
+        for (int seed = 0; seed < 20; seed++) {
+            due("the last PLAYER, " + seed, last.lots(30, seed), quickEnds(30, seed) % 100);
+        }
         due("SECONDS as they were", x.count(2), 0);
         due("LEAD as it was", x.count(3), 5);
     }
@@ -770,7 +824,15 @@ public final class PromisesEdgesTest extends Checks {
         due("it is still there", x.restore(), 24);
         due("room for four more", tell(x, "p0s000;p0s000;p0s000;p0s000;"), 4);
         due("no room for five", tell(x, "p0s000;"), -2000);
-        due("VALUE as then", x.restore() == 24 ? x.here() : -1, 0);
+        // What was solved by other PLAYERS, by another DRAW is solved anew.
+        NineteenSecondsLeft y = game("c01;l+0;d0;");
+        y.image();
+        due("VALUE then", y.here(), 0);
+        tell(y, "p0s090;d3;");
+        due("VALUE with a PLAYER", y.here(), mixed(4, WIN, 300000000));
+        y.restore();
+        due("VALUE as then", y.here(), 0);
+        due("no PLAYER's CHOICE", y.best(1, 6, 0), 93);
     }
 
     private void counts() {
