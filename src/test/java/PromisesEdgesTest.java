@@ -533,6 +533,11 @@ public final class PromisesEdgesTest extends Checks {
         due("two: the worse", game("p0s500;p0s300;c04;l-1;d0;r0;").on(), 1);
         due("two alike: the least", game("p0s500;p0s500;c04;l-1;d0;r0;").on(), 0);
         due("his best is the other's: the least", game("p0s900;p0s900;p0s100;c04;l-1;d0;r0;").on(), 0);
+        // NEAR by 9 tenths and FAR by 3 behind its miss: 7 SECONDS want both, so VALUE falls by the
+        // absence of either; nobody behind the last one may be told.
+        NineteenSecondsLeft both = game("p0s900;p0s030;c07;l-1;d0;r9;");
+        due("VALUE by both", both.here(), 927000000);
+        due("both are wanted: the one who is missed less", both.on(), 1);
         x.set(0, 0);
         due("at the lamp: the least", x.on(), 1);
         due("-9 is no REFUSAL", x.count(14), 0);
