@@ -5,17 +5,17 @@ import java.nio.file.Path;
 
 /** What the tests by hand share: games told in letters, answers that are due, and for which words. */
 abstract class Checks {
-    private static final Path DOCUMENT = Path.of("../shared/DOC.md");
+    static final Path DOCUMENT = Path.of("../shared/DOC.md");
 
-    private final String document = readDocument();
+    private final String document = read(DOCUMENT);
     private String words = "";
     private int ofTheseWords = 1;
     private int passed = 0;
     private int failed = 0;
 
-    private static String readDocument() {
+    static String read(Path file) {
         try {
-            return Files.readString(DOCUMENT, StandardCharsets.UTF_8);
+            return Files.readString(file, StandardCharsets.UTF_8);
         } catch (IOException e) {
             throw new IllegalStateException(e);
         }
